@@ -1203,8 +1203,8 @@ public final class TwoWidths {
         private final int[] change;
         // What each node is away from the aim.
         private final int[] away;
-        final int[] steps;
-        final int[] nodes;
+        private final int[] steps;
+        private final int[] nodes;
         int stepCount;
         private final int[] open;
         private int openCount;

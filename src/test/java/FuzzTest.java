@@ -266,7 +266,7 @@ public final class FuzzTest {
     }
 
     public static void main(String[] args) {
-        int runs = args.length > 0 ? Integer.parseInt(args[0]) : 250;
+        int runs = args.length > 0 ? Integer.parseInt(args[0]) : 1000;
         long seed = args.length > 1 ? Long.parseLong(args[1]) : 1000;
         Check check = new Check("FuzzTest");
         for (int i = 0; i < runs; i++) {

@@ -12,6 +12,7 @@ public final class WorksTest {
         worths();
         greedyTrap();
         greedyOrder();
+        greedyAll();
         never();
         doneOnes();
         oneWidth();
@@ -209,6 +210,25 @@ public final class WorksTest {
         C.due("total by numbers: the alter undoes the third", y.total(3), 105 + 1090);
         C.due("best", y.best(), 2);
         C.due("gap", y.gap(), 5);
+    }
+
+    private static void greedyAll() {
+        // eight lines of widths in turn: seven changes, and a lift for each
+        TwoWidths x = new TwoWidths();
+        for (int i = 0; i < 8; i++) {
+            x.line(i, i + 1, 1 + i % 2, 1, 9, 0);
+        }
+        for (int i = 0; i < 7; i++) {
+            x.work(3, i + 1, 0, 7 - i);
+        }
+        x.goods(0, 8, 1);
+        C.due("first", x.first(), 6);
+        C.due("greedy", x.greedy(), 127);
+        C.due("best", x.best(), 127);
+        C.due("total", x.total(127), 28 + 80);
+        C.due("gap", x.gap(), 0);
+        C.due("run", x.run(8), 28 + 62 + 53 + 44 + 35 + 26 + 17 + 8 + 8);
+        C.due("all done", x.status(3), 7);
     }
 
     private static void never() {
