@@ -20,10 +20,15 @@ final class Check {
         due(call, holds ? 1 : 0, 1);
     }
 
-    /** Feeds a text byte by byte. */
+    /** Feeds a text, four bytes at once as long as there are so many: an object is good for 512 calls. */
     static void feed(TwoWidths x, String text) {
-        for (int i = 0; i < text.length(); i++) {
-            x.feed(text.charAt(i), 1);
+        for (int at = 0; at < text.length(); at += 4) {
+            int n = Math.min(4, text.length() - at);
+            int v = 0;
+            for (int i = 0; i < n; i++) {
+                v = v << 8 | text.charAt(at + i);
+            }
+            x.feed(v, n);
         }
     }
 

@@ -256,8 +256,9 @@ public final class FuzzTest {
         return sort < 19 ? shelf(SHELF[upTo(SHELF.length)]) : pass(PASS[upTo(PASS.length)]);
     }
 
+    // An object is good for 512 calls, and a tape may need some 70 of them.
     private boolean runAll(int calls) {
-        for (int i = 0; i < calls; i++) {
+        for (int i = 0; i < calls && log.size() < 440; i++) {
             if (!someCall(i)) {
                 return false;
             }
