@@ -108,4 +108,26 @@ final class Lands {
         return Check.of("line 0 1 width 1 miles 20 owner 3;goods 0 1 5;work 1 0 1 5;work 2 0 1 5;work 3 0 0 5;"
             + "work 4 0 1 5;work 5 0 1 5;work 3 1 9 5;work 1 0 2 5");
     }
+
+    /** WORK 0 helps nothing; 1 and 2 are NEW LINES that help only together; 0 and 2 are DONE for good since the image. */
+    static TwoWidths pair() {
+        TwoWidths x = Check.of("goods 0 2 1;work 3 5 0 1;work 4 0 1 1;work 4 1 2 1");
+        x.image();
+        x.year(0);
+        x.year(2);
+        return x;
+    }
+
+    /** NEW LINES that help only together, of which WORK 1 is DONE for good since the image. */
+    static TwoWidths laterPair() {
+        TwoWidths x = Check.of("goods 0 2 1;work 4 0 1 1;work 4 1 2 1");
+        x.image();
+        x.year(1);
+        return x;
+    }
+
+    /** A NEW LINE that helps nothing as long as it is the only one. */
+    static TwoWidths half() {
+        return Check.of("goods 0 2 1;work 4 0 1 1");
+    }
 }

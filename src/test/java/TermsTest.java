@@ -517,6 +517,11 @@ public final class TermsTest {
         TwoWidths z = Check.of("coin 1 0;line 4 5 width 2 miles 9;line 5 6 width 2 miles 9;line 6 4 width 2 miles 9;"
             + "line 4 7 width 2 miles 9;goods 5 7 1;goods 6 7 1");
         C.due("5 4 7", z.way(0, 0) * 100 + z.way(0, 10) * 10 + z.way(0, 11), 203);
+        // a LINE just WASHED away makes a blind end of what led on before
+        TwoWidths v = Check.of("coin 1 0;line 4 5 width 2 miles 9;line 4 7 width 2 miles 9;line 5 7 width 2 miles 9;goods 4 7 1");
+        C.due("4 5 7", v.way(0, 0) * 100 + v.way(0, 10) * 10 + v.way(0, 11), 202);
+        v.washed(2, true);
+        C.due("4 7", v.way(0, 0) * 10 + v.way(0, 10), 11);
         C.due("6 5 4 7", z.way(1, 0) * 1000 + z.way(1, 10) * 100 + z.way(1, 11) * 10 + z.way(1, 12), 3103);
     }
 

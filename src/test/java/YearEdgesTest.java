@@ -107,6 +107,21 @@ public final class YearEdgesTest {
         TwoWidths y = Check.of("goods 0 2 1;work 4 0 1 1;work 4 1 2 1");
         C.due("alone each costs, together they help", y.never(), 0);
         C.due("alone", y.worth(0), -1);
+        TwoWidths z = Lands.half();
+        C.due("the only one costs", z.never(), 1);
+        C.due("greedy", z.greedy(), 0);
+        z.work(4, 1, 2, 1);
+        C.due("another one makes it help", z.never(), 0);
+        TwoWidths v = Lands.pair();
+        C.due("those not DONE", v.never(), 0);
+        C.due("with the one DONE it helps", v.worth(1), 10 * (999 - 20) - 1);
+        v.back();
+        C.due("as before", v.never(), 1);
+        TwoWidths u = Lands.laterPair();
+        C.due("it helps", u.worth(0), 10 * (999 - 20) - 1);
+        C.due("total", u.total(1), 1 + 200);
+        u.back();
+        C.due("as before", u.never(), 0);
     }
 
     // Promises 37 and 38.
